@@ -364,6 +364,9 @@ public final class PromisesTest {
         two.set(5, 0, 16);
         due("BEATS 0, 8 held by 16", two.bar(0), 16);
         due("12 * 2 strokes at 16, twelve of them on CELLS struck before", two.bar(1), (1200 + 1080) * 1000 / 192);
+        rule(x, "gives 1000 * (gap = 240); drifts 0; hurts 0;");
+        due("the longest", x.bar(0), 240);
+        due("11 whole CELLS and what a ROUND left of one", x.bar(1), 11956 * 1000 / 2880);
         due("bar(-1)", x.bar(-1), BAD);
         due("bar(2)", x.bar(2), BAD);
         for (int w : WILD) due("bar(w)", x.bar(w), BAD);

@@ -100,6 +100,11 @@ public final class TextsTest {
         faultE("1 ^orwet");
         faultE("^nots 1");
         faultE("^fforce");
+        faultE("^xorce");
+        faultE("1 ^xr 1");
+        faultE("^forcez");
+        faultE("^zforce");
+        faultE("^aforce");
         faultE("^forc");
         faultE("^tiredd");
         faultE("^gives");
