@@ -73,6 +73,7 @@ final class BestEdges {
     }
 
     private static void barsHeld() {
+        five(0, 0, 0, 0, 0).ruled("0", "0", "0").due("bar(0)", 12).due("bar(1)", 0).due("told(4, 3)", 96);
         Hand x = new Hand().calls("set(5, 0, 240)", "man(0, 100, 51)", "man(0, 0, 50)").ruled("1000 * (gap = 8) * (round = 0) * tired", "0", "1");
         x.due("bar(0)", 23).due("bar(1)", 3623).due("told(0, 3)", 100);
         Hand y = new Hand().calls("set(5, 0, 240)", "man(0, 200, 51)", "man(0, 0, 50)").ruled("1000 * (gap = 200) * (round = 0) * tired", "0", "1");
@@ -110,6 +111,8 @@ final class BestEdges {
     private static void mostOut() {
         Sentences.sentence("of like ones most comes OUT;");
         everyRow(new int[5], 0);
+        Hand.with(0, 0, 59, 1, 60, 59).ruled("force * (round = 0)", "0", "1").calls("set(0, 1, 0)")
+            .due("order(0)", 1).due("order(1)", 0).calls("set(0, 1, 1000)", "set(0, 0, 0)").due("order(0)", 0);
         pair(9, 0, "wet * tired * (round = 11)").calls("set(1, 10, 0)", "set(1, 11, 9)").due("order(0)", 1).due("order(1)", 0);
         pair(9, 0, "wet * tired * (round = 12)").calls("set(1, 0, 0)", "set(1, 1, 9)").due("order(0)", 0).calls("round()").due("order(0)", 1);
     }
@@ -161,6 +164,7 @@ final class BestEdges {
     }
 
     private static void othersKeepOrder() {
+        Hand.with(1, 0, 59, 0, 60, 69).ruled("force * (gap = 120) * (round = 0)", "0", "1").due("home()", 1).calls("set(4, 0, 1)").due("home()", 0);
         Hand x = Hand.with(0, 0, 55, 0, 40, 51, 0, 80, 59).ruled("wet * tired * (round = 0)", "0", "1").calls("set(1, 0, 0)", "set(1, 1, 1)", "set(1, 2, 0)");
         x.due("run(12, 0)", 1).due("home()", 0).calls("set(4, 1, 9)", "set(4, 2, 1)").due("run(12, 0)", 9).due("home()", NONE);
     }

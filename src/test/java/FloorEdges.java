@@ -211,6 +211,8 @@ final class FloorEdges {
         Hand y = Hand.with(0, 119, 50, 0, 60, 50);
         y.due("set(5, -1, 119)", 120).due("told(0, 3)", 0).due("told(1, 3)", 60).due("set(5, " + LEAST + ", 60)", 119).due("told(1, 3)", 0);
         y.due("set(5, " + MOST + ", 60)", 60).due("set(5, 2, 61)", 60);
+        Hand five = Hand.with(0, 119, 50, 0, 110, 50, 0, 100, 50, 0, 99, 50, 0, 118, 50);
+        five.due("set(5, 5, 100)", 120).dueFrom("told(%, 3)", 0, 19, 10, 0, 99, 18).due("set(5, 4, 12)", 100).dueFrom("told(%, 3)", 0, 7, 10, 0, 3, 6);
 
         Sentences.promise(3, "BAD (BEAT 0 .. 239).");
         Hand x = busy();

@@ -66,6 +66,9 @@ final class KeptEdges {
         Hand crowd = new Hand().calls("set(5, 0, 12)", "man(0, 2, 50)", "man(0, 4, 50)", "man(0, 6, 50)", "man(0, 8, 50)", "man(0, 10, 50)");
         crowd.asked("drawn(7, 1)", crowd.again().call("drawn(7, 1)")).asked("drawn(" + LEAST + ", 40)", crowd.again().call("drawn(" + LEAST + ", 40)"));
         new Hand().asked("drawn(" + MOST + ", 40)", 0);
+        for (int k = 0; k < SEEDS.length; k++) {
+            Hand.with(0, 50, 53).due("drawn(" + SEEDS[k] + ", 40)", 0).due("round()", 44).due("told(0, 3)", 53).due("drawn(" + SEEDS[k] + ", 1)", 0).due("beat(0, 1)", 56);
+        }
         Hand.with(0, 0, 50).asked("drawn(" + LEAST + ", 40)", 0);
     }
 

@@ -76,7 +76,8 @@ public final class RoomTest {
         say(x, "gives force*(gap-wet)+ears*(round+tired)-(force<40 or not gap=3);drifts tired-round*(force<9);hurts gap<4 and force-tired*9;");
         x.text();
         x.force(1);
-        for (int k = 0; k < 300; k++) {
+        int times = which == 5 || which == 7 ? 150 : 300;
+        for (int k = 0; k < times; k++) {
             if (which == 25) x.sheet(k % 4, 2, 40);
             else if (which == 5) { x.feed('g'); x.text(); }
             else if (which == 7) { x.set(0, k % 12, 9999); x.round(); }

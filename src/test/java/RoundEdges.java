@@ -177,7 +177,8 @@ final class RoundEdges {
         empty.due("round()", 0).due("run(40, 0)", 0).due("run(40, 3)", 0);
         Hand most = Hand.with(0, 0, 50, 0, 24, 50, 0, 48, 50, 0, 72, 50, 0, 96, 50).ruled("1000", "0", "1");
         for (int c = 0; c < 12; c++) most.call("set(0, " + c + ", 9999)");
-        most.due("run(3, 0)", 12 * 9999).due("run(40, 0)", 12 * 9999).due("run(2, 3)", 2 * 9999).due("round()", 5 * 9999).due("round()", 5 * 9999).due("round()", 2 * 9999).due("round()", 0).due("count(3)", 12 * 9999);
+        most.due("run(3, 0)", 12 * 9999).due("run(40, 0)", 12 * 9999).due("run(2, 3)", 2 * 9999);
+        most.due("round()", 5 * 9999).due("round()", 5 * 9999).due("round()", 2 * 9999).due("round()", 0).due("count(3)", 12 * 9999);
     }
 
     private static void run() {

@@ -121,7 +121,7 @@ final class TextEdges {
         fault("gives 1;^hurts 1;drifts 1;");
         fault("gives 1;drifts 1;^gives 1;");
         fault("gives 1;drifts 1;hurts 1;^;");
-        fault("gives 1;drifts 1;hurts 1;^gives 1;");
+        for (String more : new String[] {"gives 1;", ";", ")", "5", "10000", "wet", "x", "or 1", "+ 1", "$"}) fault(SHORT + "^" + more);
         fault("gives ^;drifts 1;hurts 1;");
         fault("gives 1 ^drifts 1;hurts 1;");
         fault("^;");
@@ -232,14 +232,27 @@ final class TextEdges {
                 fault("^" + (char) b);
             }
         }
-        for (String w : new String[] {"a", "z", "giv", "give", "givess", "forc", "forced", "xforce", "wett", "o", "orr", "an", "andy", "no", "nots", "ear", "tire"}) {
-            faultE("^" + w);
-            faultE("1 ^" + w);
-            fault("^" + w);
-        }
+        noWord("a");
+        noWord("z");
+        for (String w : new String[] {"force", "wet", "gap", "ears", "round", "tired", "gives", "drifts", "hurts", "or", "and", "not"}) almost(w);
         faultE("^10000");
         faultE("1 ^10000");
         fault("^10000");
+    }
+
+    private static void noWord(String w) {
+        faultE("^" + w);
+        faultE("1 ^" + w);
+        fault("^" + w);
+    }
+
+    /** A letter more, a letter less, one letter otherwise. */
+    private static void almost(String word) {
+        for (String w : new String[] {"a" + word, "z" + word, word + "a", word + "z", word + word, word.substring(1), word.substring(0, word.length() - 1)}) noWord(w);
+        for (int k = 0; k < word.length(); k++) {
+            char other = word.charAt(k) == 'x' ? 'y' : 'x';
+            noWord(word.substring(0, k) + other + word.substring(k + 1));
+        }
     }
 
     private static void tooMuchOpen() {
@@ -374,6 +387,11 @@ final class TextEdges {
         x.feeds("x").due("text()", -100).due("count(5)", 0);
         x.feeds("gives 1;drifts 1;hurts 1;x").due("text()", -125).due("count(5)", 0).due("count(4)", 1).due("force(1)", BAD);
         x.feeds(SHORT).due("text()", 1).due("count(5)", 0).due("text()", -100).due("count(4)", 2);
+        StringBuilder ones = new StringBuilder("gives 1");
+        while (ones.length() < 155) ones.append("+1");
+        Hand often = Hand.with(0, 100, 50);
+        for (int k = 0; k < 2; k++) Sentences.due("a long TEXT that ends too early", often.reads(ones.toString()), -100 - ones.length());
+        often.ruled("7*(wet+gap)", "3+4*5", "1").due("run(1, 0)", 854).due("beat(0, 1)", 3);
 
         Sentences.promise(7, "FULL (ahead of all): no TEXT more has room (THE TAPE stays).");
         Hand full = new Hand();
