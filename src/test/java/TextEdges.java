@@ -201,7 +201,7 @@ final class TextEdges {
     }
 
     private static void tooEarly() {
-        Sentences.sentence("(the text's size, blanks at its end with it, if it ends too early)");
+        Sentences.sentence("(the text's size, blanks at its end with it, if it ends too early),");
         fault("^");
         fault(" ^");
         fault("\n \n^");
