@@ -84,9 +84,12 @@ final class BestEdges {
         Sentences.sentence("BEST ORDER: of all orders of MEN (rows of their numbers as they are now; in it they are numbered by their places) the one by which, in 12 ROUNDS, KNOCKS are fewest;");
         Hand more = Hand.with(0, 5, 59, 0, 0, 50).ruled("wet * tired * (round = 1)", "0", "1").calls("set(1, 2, 9)", "set(1, 3, 0)");
         more.due("run(12, 1)", 1).due("run(12, 0)", 81).due("order(-1)", 0).due("order(0)", 1).due("order(1)", 0);
+        Hand unhurt = Hand.with(0, 5, 59, 0, 0, 50).ruled("wet * tired * (round = 1)", "0", "0").calls("set(1, 2, 9)", "set(1, 3, 0)");
+        unhurt.due("run(12, 1)", 1).due("run(12, 2)", 0).due("run(12, 0)", 81).due("order(-1)", 0).due("order(0)", 1).due("order(1)", 0);
         Hand tenth = drifting(10).due("run(12, 1)", 1).due("order(-1)", 1).due("order(0)", 0).due("order(1)", 1);
         drifting(11).due("run(12, 1)", 1).due("order(-1)", 0).due("order(0)", 1).due("order(1)", 0);
         drifting(12).due("run(12, 1)", 0).due("order(-1)", 0).due("order(0)", 0).due("order(1)", 1);
+        drifting(10).ruled("0", "58 * (round = 10) * (force = 50)", "0").due("run(12, 1)", 1).due("run(12, 2)", 0).due("order(-1)", 1).due("order(0)", 0);
         tenth.calls("round()").due("order(-1)", 1).due("order(0)", 0);
         new Hand().due("order(-1)", 0);
         Hand.with(5, 7, 11).due("order(-1)", 0).due("order(0)", 0);
@@ -215,6 +218,9 @@ final class BestEdges {
         five(0, 0, 0, 0, 1).ruled("tired * (round = 0)", "0", "1").dueFrom("fewest(%)", 0, 1, 5, NONE);
         five(1, 0, 0, 0, 0).ruled("tired * (round = 0)", "0", "1").dueFrom("fewest(%)", 0, 1, 1, NONE);
         pair(1, 1, "gap = 120").dueFrom("fewest(%)", 11, 1, 1, NONE).due("run(12, 0)", 0);
+        // cells 0 and 1 have 990 left by then, of which a stroke gets out 9
+        Hand later = alone("10").calls("round()", "round()").due("count(3)", 20).due("fewest(118)", 1).due("fewest(119)", NONE).due("run(12, 0)", 118);
+        later.calls("man(0, 60, 50)").due("fewest(119)", 2).due("fewest(226)", 2).due("fewest(227)", NONE).due("run(12, 0)", 226);
         new Hand().due("fewest(0)", NONE).due("fewest(1)", NONE);
         Hand all = alone("1000");
         for (int c = 0; c < 12; c++) all.call("set(0, " + c + ", 9999)");
@@ -236,6 +242,10 @@ final class BestEdges {
             x.calls("cell(1, 0, 0)").due("judge(0, 1)", 0).calls("round()").due("judge(0, 1)", 0);
         }
         Hand late = noted(2, 2).calls("round()", "cell(1, 0, 6)", "cell(1, 1, 9)").due("judge(0, 1)", NONE);
+        for (int sort = 0; sort < 3; sort++) {
+            Hand wide = new Hand().calls("set(5, 0, 240)", "man(0, 199, 51)", "sheet(0, " + sort + ", 2)", "cell(0, 0, 200)", "cell(0, 1, 201)");
+            wide.due("judge(0, 0)", sort == 0 ? 0 : NONE);
+        }
         late.calls("cell(1, 0, 126)").due("judge(0, 1)", 0).calls("cell(1, 0, -114)").due("judge(0, 1)", 0);
     }
 
@@ -247,6 +257,10 @@ final class BestEdges {
         alone("force").calls("set(3, 0, 0)").due("slow(0)", 0);
         alone("1000 * (force < 1)").due("slow(0)", -12000);
         alone("1000 * (0 < force)").due("slow(0)", 12000);
+        Hand.with(1, 0, 59).due("run(12, 0)", 12 * 89).due("slow(0)", 12 * 50).due("told(0, 4)", 5);
+        Hand.with(4, 0, 59).due("slow(0)", 12 * 50);
+        // of the 950 that cell 0 has left, 50 of a thousand are 47
+        alone("force").calls("round()").due("count(3)", 50).due("slow(0)", 11 * 50 + 47);
         pair(0, 0, "force * (round = 0)").calls("set(3, 0, 9)", "set(3, 1, 1)").due("slow(0)", 90).due("slow(1)", 10);
     }
 

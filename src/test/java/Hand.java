@@ -4,6 +4,9 @@ import java.util.ArrayList;
 import java.util.HashMap;
 import java.util.List;
 import java.util.Map;
+import java.util.Objects;
+import java.util.Set;
+import java.util.TreeSet;
 
 /**
  * A FourFlails that is called by texts such as "man(0, 0, 50)". It counts its calls, since the 513th may answer
@@ -90,13 +93,23 @@ final class Hand {
 
     /** The call answers so, and an object that has heard it tells all that one tells which has not. */
     Hand refused(String call, long want) {
-        Hand heard = again();
-        Hand spared = again();
-        due(call, want);
+        changes(call, want);
         standing.remove(standing.size() - 1);
-        heard.call(call);
-        String a = heard.all(), b = spared.all();
-        Sentences.due("all behind " + call + " (" + a + " / " + b + ")", a.equals(b) ? 1 : 0, 1);
+        return this;
+    }
+
+    /** The call answers so, and all that is told otherwise behind it is what begins with one of these words. */
+    Hand changes(String call, long want, String... otherwise) {
+        Map<String, Long> ahead = all();
+        due(call, want);
+        Map<String, Long> behind = all();
+        Set<String> told = new TreeSet<>(ahead.keySet());
+        told.addAll(behind.keySet());
+        told.removeIf(t -> Objects.equals(ahead.get(t), behind.get(t)));
+        for (String words : otherwise) {
+            Sentences.due(words + " is told otherwise behind " + call, told.removeIf(t -> t.startsWith(words)) ? 1 : 0, 1);
+        }
+        Sentences.due("what else is told otherwise behind " + call + " " + told, told.size(), 0);
         return this;
     }
 
@@ -117,59 +130,67 @@ final class Hand {
 
     // ---- all that calls tell
 
-    /** It spends the object: nothing is as it was behind it. */
-    private String all() {
-        StringBuilder s = new StringBuilder();
-        tellFloor(s);
-        tellTexts(s);
-        tell(s, "back()");
-        tellFloor(s);
-        for (int sheet = 0; sheet < 4; sheet++) tellSheet(s, sheet);
-        return s.toString();
+    /** Since telling changes what it tells of, each part is told by an object of its own, that has heard the same calls. */
+    private Map<String, Long> all() {
+        Map<String, Long> told = new HashMap<>();
+        again().tellNow(told);
+        again().tellKept(told);
+        again().tellTexts(told);
+        for (int sheet = 0; sheet < 4; sheet++) again().tellSheet(told, sheet);
+        return told;
     }
 
-    private long tell(StringBuilder s, String call) {
+    private void tellNow(Map<String, Long> told) {
+        for (int k = 4; k < 6; k++) tell(told, "now ", "count(" + k + ")");
+        tellFloor(told, "now ");
+    }
+
+    private void tellKept(Map<String, Long> told) {
+        tell(told, "kept ", "back()");
+        tellFloor(told, "kept ");
+    }
+
+    private long tell(Map<String, Long> told, String where, String call) {
         long answer = call(call);
-        s.append(answer).append(' ');
+        told.put(where + call, answer);
         return answer;
     }
 
-    private void tellFloor(StringBuilder s) {
-        s.append("[floor ");
-        long men = tell(s, "count(0)");
-        for (int k = 1; k < 7; k++) tell(s, "count(" + k + ")");
-        for (int c = 0; c < 12; c++) for (int k = 0; k < 2; k++) tell(s, "told(" + c + ", " + k + ")");
-        for (int m = 0; m < men; m++) for (int k = 2; k < 6; k++) tell(s, "told(" + m + ", " + k + ")");
-        s.append(']');
+    private void tellFloor(Map<String, Long> told, String where) {
+        long men = tell(told, where, "count(0)");
+        for (int k : new int[] {1, 2, 3, 6}) tell(told, where, "count(" + k + ")");
+        for (int c = 0; c < 12; c++) for (int k = 0; k < 2; k++) tell(told, where, "told(" + c + ", " + k + ")");
+        for (int m = 0; m < men; m++) for (int k = 2; k < 6; k++) tell(told, where, "told(" + m + ", " + k + ")");
     }
 
-    private void tellTexts(StringBuilder s) {
-        s.append("[texts ");
-        long texts = tell(s, "count(4)");
-        if (tell(s, "text()") > 0) texts++;
+    /** By the floor that is kept, so that what changed on the floor itself is told apart from it. */
+    private void tellTexts(Map<String, Long> told) {
+        call("back()");
+        long texts = call("count(4)");
+        if (tell(told, "tape ", "text()") > 0) texts++;
         for (int t = 0; t < texts; t++) {
-            tell(s, "force(" + t + ")");
-            for (int k = 0; k < 3; k++) tell(s, "run(3, " + k + ")");
+            call("force(" + t + ")");
+            for (int k = 0; k < 3; k++) tell(told, "text " + t + " ", "run(3, " + k + ")");
         }
-        s.append(']');
     }
 
     /** Its size by where nothing can be copied to, its sort by what it may be taken for, its items by the MEN in it. */
-    private void tellSheet(StringBuilder s, int sheet) {
-        s.append("[sheet ");
+    private void tellSheet(Map<String, Long> told, int sheet) {
+        String where = "sheet " + sheet + " ";
+        call("back()");
         int size = 0;
-        while (tell(s, "copy(" + sheet + ", " + size + ", " + sheet + ", " + size + ", 1)") == 1) size++;
+        while (tell(told, where, "copy(" + sheet + ", " + size + ", " + sheet + ", " + size + ", 1)") == 1) size++;
         for (int sort = 0; sort < 3; sort++) {
-            if (tell(s, "men(" + sheet + ", " + sort + ", 0, 0)") == 0) tellMenOf(s, sheet, sort, size);
+            if (tell(told, where, "men(" + sheet + ", " + sort + ", 0, 0)") == 0) tellMenOf(told, sheet, sort, size);
         }
-        s.append(']');
     }
 
-    private void tellMenOf(StringBuilder s, int sheet, int sort, int size) {
+    private void tellMenOf(Map<String, Long> told, int sheet, int sort, int size) {
         for (int i = 0; i + 2 < size; i += 3) {
-            tell(s, "men(" + sheet + ", " + sort + ", " + i + ", 1)");
+            String where = "sheet " + sheet + " item " + i + " ";
+            tell(told, where, "men(" + sheet + ", " + sort + ", " + i + ", 1)");
             long last = call("count(0)") - 1;
-            for (int k = 2; k < 6; k++) tell(s, "told(" + last + ", " + k + ")");
+            for (int k = 2; k < 6; k++) told.put(where + k, call("told(" + last + ", " + k + ")"));
             call("back()");
         }
     }

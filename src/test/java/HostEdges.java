@@ -120,6 +120,7 @@ final class HostEdges {
             holds(filled(sort, 0, 10, 11, 1, 20, 22).due("copy(0, 0, 0, 0, 6)", 6), 0, sort, 0, 10, 1, 1, 1, 20, 2, 2);
             Hand other = filled(sort, 0, 10, 11, 1, 20, 22).calls("sheet(3, " + sort + ", 3)").due("copy(0, 3, 3, 0, 3)", 3);
             holds(other, 3, sort, 1, 20, 2, 2);
+            holds(other, 0, sort, 0, 10, 1, 1, 1, 20, 2, 2);
             holds(other.due("cell(0, 3, 4)", 1).due("cell(0, 5, 99)", 1), 3, sort, 1, 20, 2, 2);
             holds(other.due("copy(0, 5, 3, 2, 1)", 1), 3, sort, 1, 20, 9, 9);
             holds(other.due("copy(0, 0, 3, 0, 0)", 0), 3, sort, 1, 20, 9, 9);

@@ -8,6 +8,7 @@ final class KeptEdges {
         drawnFirst();
         drawnSecond();
         drawnOnTop();
+        drawnOn();
         drawn();
         onceAllStrike();
         once();
@@ -58,6 +59,23 @@ final class KeptEdges {
         for (int k = 0; k < SEEDS.length; k++) Sentences.due("all drawn(" + SEEDS[k] + ", 1) on the bound", knocks[k], FIRST[k]);
     }
 
+    /** The same z goes on from round to round; a KNOCK by which nobody is HIT counts, too. Worked out apart from the class. */
+    private static void drawnOn() {
+        int[] rounds = {1, 2, 3, 12, 40};
+        int[][] two = {{0, 1, 0, 0, 0, 0, 0, 0, 0, 0, 0, 0, 1}, {1, 2, 0, 1, 1, 1, 1, 1, 1, 1, 1, 0, 2}, {1, 3, 1, 1, 1, 1, 2, 3, 1, 2, 2, 1, 3},
+            {4, 6, 6, 8, 4, 6, 9, 9, 4, 4, 11, 6, 9}, {22, 21, 24, 23, 20, 23, 29, 26, 21, 22, 24, 23, 25}};
+        int[][] five = {{1, 1, 2, 3, 3, 2, 2, 1, 3, 1, 1, 3, 3}, {1, 1, 2, 4, 5, 3, 3, 1, 5, 1, 1, 5, 6}, {1, 1, 2, 4, 8, 3, 3, 1, 6, 1, 1, 6, 7},
+            {1, 1, 2, 4, 24, 3, 3, 1, 6, 1, 1, 24, 7}, {1, 1, 2, 4, 27, 3, 3, 1, 6, 1, 1, 24, 7}};
+        Hand x = new Hand().calls("set(5, 0, 18)", "man(0, 0, 50)", "man(0, 10, 50)").ruled("1", "0", "0");
+        Hand y = new Hand().calls("set(5, 0, 40)", "man(0, 2, 50)", "man(0, 4, 50)", "man(0, 6, 50)", "man(0, 8, 50)", "man(0, 10, 50)").ruled("1", "0", "0");
+        for (int n = 0; n < rounds.length; n++) {
+            for (int k = 0; k < SEEDS.length; k++) {
+                x.due("drawn(" + SEEDS[k] + ", " + rounds[n] + ")", two[n][k]);
+                y.due("drawn(" + SEEDS[k] + ", " + rounds[n] + ")", five[n][k]);
+            }
+        }
+    }
+
     private static void drawn() {
         Sentences.promise(22, "DRAWN (n 0 .. 40). BAD.");
         FloorEdges.busy().refusedFor("drawn(0, %)", BAD, LEAST, -1, 41, MOST);
@@ -80,6 +98,14 @@ final class KeptEdges {
         halves.calls("set(0, 0, 1)").due("once(0, 0)", 1).due("once(0, 1)", 0).calls("set(0, 0, 0)").due("once(0, 0)", 0);
         Hand.with(0, 9, 50, 0, 9, 50).ruled("gap", "0", "1").due("once(0, 1)", 0);
         Hand.with(0, 9, 50, 0, 10, 50).ruled("gap", "99", "1").due("once(0, 1)", 119);
+        Hand.with(0, 9, 51, 0, 60, 50).ruled("500 * tired + 10 * (1 - tired) * (ears < 1000)", "0", "1").due("once(2, 1)", 505).due("once(2, 0)", 495);
+        Hand.with(0, 9, 50, 0, 60, 51).ruled("500 * tired + 10 * (1 - tired) * (ears < 1000)", "0", "1").due("once(2, 1)", 500).due("once(2, 0)", 500);
+        for (int kind = 0; kind < 6; kind++) {
+            Hand seen = Hand.with(kind, 9, 59).calls("round()", "round()", "round()", "set(1, 5, 7)");
+            seen.ruled("round", "0", "1").due("once(5, 1)", 3).due("once(5, 0)", 997);
+            seen.ruled("wet", "0", "1").due("once(5, 1)", 7).due("once(6, 1)", 2).ruled("tired", "0", "1").due("once(5, 1)", 9);
+            seen.ruled("force", "0", "1").due("once(5, 1)", new int[] {50, 95, 47, 47, 95, 23}[kind]);
+        }
         Hand.with(0, 9, 50).ruled("gap", "99", "1").due("once(0, 1)", 120).due("once(11, 0)", 880);
         Hand.with(0, 10, 50, 0, 50, 50).ruled("gap * 10", "99", "1").due("once(0, 1)", 880);
         Hand.with(0, 9, 50, 0, 9, 50).calls("set(0, 0, 900)").ruled("ears", "0", "1").due("once(0, 0)", 82).due("once(0, 1)", 818);

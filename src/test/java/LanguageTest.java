@@ -155,12 +155,58 @@ public final class LanguageTest {
 
         @Override public Void visitNewClass(NewClassTree t, Void v) {
             called(trees.getElement(getCurrentPath()));
+            made(t);
             return super.visitNewClass(t, v);
         }
 
+        private String typeOf(Tree t) { return String.valueOf(trees.getTypeMirror(new TreePath(getCurrentPath(), t))); }
+
         @Override public Void visitBinary(BinaryTree t, Void v) {
+            boolean like = t.getKind() == Tree.Kind.EQUAL_TO || t.getKind() == Tree.Kind.NOT_EQUAL_TO;
             if (t.getKind() == Tree.Kind.PLUS && trees.getTypeMirror(getCurrentPath()).toString().equals("java.lang.String")) refuse("10", t);
+            if (like && typeOf(t.getLeftOperand()).equals("java.lang.String")) refuse("6", t);
             return super.visitBinary(t, v);
+        }
+
+        @Override public Void visitVariable(VariableTree t, Void v) {
+            String type = typeOf(t.getType());
+            if (!type.matches("(int|long|boolean|java\\.lang\\.String|FourFlails\\.\\w+)|(int|FourFlails\\.\\w+)\\[\\]")) refuse("3", t);
+            return super.visitVariable(t, v);
+        }
+
+        @Override public Void visitTypeCast(TypeCastTree t, Void v) {
+            if (!typeOf(t.getType()).matches("int|long|short|byte|char")) refuse("6", t);
+            return super.visitTypeCast(t, v);
+        }
+
+        @Override public Void visitSwitch(SwitchTree t, Void v) {
+            if (!typeOf(t.getExpression()).equals("int")) refuse("10", t);
+            return super.visitSwitch(t, v);
+        }
+
+        private void written(Tree t) {
+            if (!(t instanceof ArrayAccessTree a)) return;
+            Element e = trees.getElement(new TreePath(new TreePath(getCurrentPath(), a), a.getExpression()));
+            if (e != null && e.getModifiers().contains(javax.lang.model.element.Modifier.STATIC)) refuse("5", t);
+        }
+
+        @Override public Void visitAssignment(AssignmentTree t, Void v) { written(t.getVariable()); return super.visitAssignment(t, v); }
+        @Override public Void visitCompoundAssignment(CompoundAssignmentTree t, Void v) { written(t.getVariable()); return super.visitCompoundAssignment(t, v); }
+        @Override public Void visitUnary(UnaryTree t, Void v) { written(t.getExpression()); return super.visitUnary(t, v); }
+
+        /** What is made in a constructor's loop is counted with the object; nothing else is made in a loop. */
+        private void made(Tree t) {
+            for (TreePath p = getCurrentPath(); p != null; p = p.getParentPath()) {
+                Tree.Kind k = p.getLeaf().getKind();
+                if (p.getLeaf() instanceof MethodTree) return;
+                boolean loop = k == Tree.Kind.FOR_LOOP || k == Tree.Kind.WHILE_LOOP || k == Tree.Kind.DO_WHILE_LOOP || k == Tree.Kind.ENHANCED_FOR_LOOP;
+                if (loop && !in.contains("FourFlails.FourFlails(")) refuse("12", t);
+            }
+        }
+
+        @Override public Void visitNewArray(NewArrayTree t, Void v) {
+            made(t);
+            return super.visitNewArray(t, v);
         }
     }
 
@@ -185,6 +231,14 @@ public final class LanguageTest {
         return most + 1;
     }
 
+    /** The grammar's methods call one another, each with the depth as its argument; no others do. */
+    private static void rings(Map<String, Set<String>> calls) {
+        Set<String> rings = new TreeSet<>();
+        for (String m : calls.keySet()) if (reaches(calls, m, m, new LinkedHashSet<>())) rings.add(m);
+        Set<String> grammar = Set.of("Reader.either(int)", "Reader.both(int)", "Reader.denied(int)", "Reader.sum(int)", "Reader.term(int)", "Reader.one(int)");
+        if (!rings.equals(new TreeSet<>(grammar))) fault("8", "these call themselves: " + rings);
+    }
+
     private static void tree(String source) throws Exception {
         JavaCompiler compiler = ToolProvider.getSystemJavaCompiler();
         try (StandardJavaFileManager files = compiler.getStandardFileManager(null, null, null)) {
@@ -192,9 +246,11 @@ public final class LanguageTest {
             JavacTask task = (JavacTask) compiler.getTask(null, files, null, List.of("-proc:none"), null, units);
             for (CompilationUnitTree unit : task.parse()) {
                 task.analyze();
+                if (unit.getPackage() != null || unit.getTypeDecls().size() != 1) fault("0", "a package line, or more than one class");
                 Scan scan = new Scan(Trees.instance(task), unit);
                 scan.scan(unit, null);
                 if (scan.calls.size() < 60) fault("0", "the tree was not read: " + scan.calls.keySet());
+                rings(scan.calls);
                 int most = 0;
                 for (String m : scan.calls.keySet()) {
                     int d = deep(scan.calls, m, new LinkedHashSet<>(Set.of(m)));
@@ -206,8 +262,14 @@ public final class LanguageTest {
         }
     }
 
+    private static void oneFile(String source) {
+        String[] files = new File(source).getAbsoluteFile().getParentFile().list();
+        if (files == null || files.length != 1) fault("0", "beside the class there stands more");
+    }
+
     public static void main(String[] args) throws Exception {
         face();
+        oneFile(args.length > 0 ? args[0] : "src/main/java/FourFlails.java");
         tree(args.length > 0 ? args[0] : "src/main/java/FourFlails.java");
         System.out.println(wrong == 0 ? "the source keeps to the rules that were looked at" : wrong + " faults");
         if (wrong != 0) System.exit(1);

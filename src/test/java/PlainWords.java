@@ -209,6 +209,6 @@ final class PlainWords {
     private static void notPromised() {
         Sentences.asksNothing("How the state is held inside the object is free, as are the speed of each call, the text of toString and the behaviour of equals and hashCode.");
         Sentences.asksNothing("Use of one object from several threads at once is not promised to be safe.");
-        Sentences.asksNothing("Nothing is promised beyond the answers and state changes described above, and nothing about an object after its 512th call.");
+        Sentences.asksNothing("and nothing about an object after its 512th call.");
     }
 }

@@ -10,6 +10,7 @@ final class RoundEdges {
         error();
         knock();
         hit();
+        seenByHim();
         cell();
         cut();
         beatWraps();
@@ -51,6 +52,9 @@ final class RoundEdges {
         three.due("beat(0, 1)", 40).due("beat(1, 1)", 80).due("beat(2, 1)", 120);
         Hand five = new Hand().calls("set(5, 0, 12)", "man(4, 2, 0)", "man(4, 0, 0)", "man(4, 0, 0)", "man(4, 0, 0)", "man(4, 0, 0)");
         five.due("beat(0, 1)", 2);
+        // GAP 239 of man 0, whose share is 48: ERROR 191, of which a MAN mends 95
+        Hand wide = new Hand().calls("set(5, 0, 240)", "man(0, 0, 50)", "man(0, 50, 50)", "man(0, 90, 50)", "man(0, 140, 50)", "man(0, 1, 50)");
+        wide.due("told(0, 7)", 239).due("beat(0, 1)", 145);
         for (int bar : new int[] {12, 121, 240}) {
             new Hand().calls("set(5, 0, " + bar + ")", "man(4, 7, 0)").due("beat(0, 1)", 7).due("beat(0, 40)", 7);
         }
@@ -78,6 +82,25 @@ final class RoundEdges {
         crowd(0, 1).ruled("1", "0", "tired").due("run(1, 1)", 5).due("run(1, 2)", 16);
         crowd(1, 0).ruled("1", "0", "tired").due("run(1, 1)", 5).due("run(1, 2)", 1);
         crowd(0, 0).ruled("1", "0", "tired").due("run(1, 1)", 5).due("run(1, 2)", 0);
+    }
+
+    /** He who knocks sees his own force, gap and number, and the cell on which his stroke would have fallen. */
+    private static void seenByHim() {
+        String[] seen = {"force", "wet", "gap", "ears", "round", "tired"};
+        int[] first = {50, 7, 5, 77, 0, 3};
+        int[] second = {30, 4, 2, 55, 0, 8};
+        for (int k = 0; k < seen.length; k++) {
+            Hand x = Hand.with(0, 5, 53, 0, 0, 34).calls("set(0, 0, 77)", "set(1, 0, 7)", "set(0, 1, 55)", "set(1, 1, 4)");
+            x.ruled("1", seen[k], seen[k] + " = " + first[k]).due("run(1, 1)", 1).due("run(1, 2)", 1).due("beat(0, 1)", (32 + first[k]) % 120);
+            x.ruled("1", "0", "not " + seen[k] + " = " + first[k]).due("run(1, 1)", 1).due("run(1, 2)", 0);
+            Hand y = Hand.with(0, 0, 53, 0, 60, 38).calls("set(0, 0, 77)", "set(1, 0, 7)", "set(0, 1, 55)", "set(1, 1, 4)");
+            String drifts = "58 * (tired = 3) + (tired = 8) * " + seen[k];
+            // his GAP of 2 is 58 too little, of which he mends 29
+            y.ruled("1", drifts, seen[k] + " = " + second[k]).due("run(1, 1)", 1).due("run(1, 2)", 2).due("beat(0, 1)", 58).due("beat(1, 1)", (60 + 29 + second[k]) % 120);
+            y.ruled("1", drifts, "not " + seen[k] + " = " + second[k]).due("run(1, 1)", 1).due("run(1, 2)", 0);
+        }
+        Hand later = Hand.with(0, 0, 50, 0, 60, 30).ruled("1", "58 * (round = 3) * (force = 50)", "round = 3").due("run(4, 1)", 1).due("run(4, 2)", 2);
+        later.ruled("1", "58 * (round = 3) * (force = 50)", "not round = 3").due("run(4, 1)", 1).due("run(4, 2)", 0);
     }
 
     private static void cell() {
@@ -112,6 +135,7 @@ final class RoundEdges {
             Hand x = new Hand().calls("set(5, 0, " + w[0] + ")", "man(0, " + w[1] + ", 50)").ruled("1", w[2] < 0 ? "-" + -w[2] : "" + w[2], "1");
             x.due("beat(0, 0)", w[1]).due("beat(0, 1)", w[3]).calls("round()").due("told(0, 3)", w[3]);
         }
+        Hand.with(2, 10, 50).ruled("1", "force", "1").due("beat(0, 1)", 60).due("beat(0, 2)", 109);
         Hand.with(3, 110, 59).ruled("1", "0", "1").due("beat(0, 1)", 119).due("beat(0, 2)", 8);
         Hand two = Hand.with(0, 0, 50, 0, 1, 50).ruled("1", "0", "1");
         two.due("beat(0, 1)", 120 - 29).due("beat(1, 1)", 1 + 15);
@@ -165,6 +189,7 @@ final class RoundEdges {
         knocksIn(39).due("holds()", 39).due("run(39, 1)", 0).due("run(40, 1)", 1);
         Hand behind = knocksIn(40).due("holds()", 40).due("run(40, 1)", 0);
         behind.calls("round()").due("holds()", 39).due("run(39, 1)", 0).due("run(40, 1)", 1);
+        crowd(0, 0).ruled("1", "0", "0").due("run(1, 2)", 0).due("holds()", 0);
     }
 
     private static void round() {

@@ -8,6 +8,7 @@ public final class SentencesTest {
         BestEdges.all();
         KeptEdges.all();
         HostEdges.all();
+        WhatChanges.all();
         Sentences.end();
     }
 }

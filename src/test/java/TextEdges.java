@@ -191,6 +191,10 @@ final class TextEdges {
         String over = "2048*1024*1024";
         tells("0<" + over + "-1", 1);
         tells(over + "<0", 1);
+        tells(over + "<1", 1);
+        tells("1<" + over, 0);
+        tells(over + "-1<-1", 0);
+        tells("-1<" + over + "-1", 1);
         tells("-(" + over + ")<0", 1);
         tells("0<-(" + over + ")-1", 1);
         tells(over + "-1+1=" + over, 1);
@@ -310,6 +314,8 @@ final class TextEdges {
         }
         x.feeds(SHORT).due("text()", FULL).due("count(4)", 6).due("force(5)", 0).due("force(6)", BAD);
         x.calls("man(0, 0, 50)").due("run(1, 0)", 5).due("force(1)", 5).due("run(1, 0)", 1);
+        for (int t = 1; t < 6; t++) x.due("force(" + t + ")", t == 1 ? 1 : t - 1).due("run(1, 0)", t).due("once(5, 1)", t);
+        x.due("force(0)", 5).due("run(1, 0)", 44);
     }
 
     private static void names() {
