@@ -15,6 +15,7 @@ final class WhatChanges {
         sheets();
         copies();
         menBySheet();
+        atFirst();
         asking();
     }
 
@@ -110,6 +111,25 @@ final class WhatChanges {
         busy().changes("men(0, 2, 0, 2)", 2, join(join(third, fourth))).dueFrom("told(4, %)", 2, 2, 8, 1, 2).changes("men(0, 2, 0, 2)", 0);
         busy().changes("men(0, 2, 3, 2)", Hand.OUTSIDE, join(third)).dueFrom("told(3, %)", 2, 2, 8, 1, 2);
         busy().calls("cell(0, 0, 6)").changes("men(0, 2, 0, 1)", 0).changes("men(0, 2, 0, 2)", 1, join(third));
+    }
+
+    /** The first call of a sort: busy() has gone through most of them, so that what only the first one spoils is not told by it. */
+    private static void atFirst() {
+        Hand first = Hand.with(0, 0, 50).calls("image()");
+        first.again().changes("man(3, 7, 21)", 1, "now count(0)", "now told(1, 2)", "now told(1, 3)", "now told(1, 4)", "now told(1, 5)");
+        first.again().changes("set(0, 7, 5)", 1000, "now told(7, 0)");
+        first.again().changes("set(1, 7, 5)", 2, "now told(7, 1)");
+        first.again().changes("set(2, 0, 5)", 0, "now told(0, 3)");
+        first.again().changes("set(3, 0, 1)", 5, "now told(0, 4)");
+        first.again().changes("set(4, 0, 1)", 0, "now told(0, 5)");
+        first.again().changes("set(5, 0, 12)", 120, "now count(1)");
+        first.again().changes("feed(32)", 1, "now count(5)", "tape text()");
+        first.again().changes("text()", -100).changes("force(0)", 0);
+        first.again().feeds("gives 1;drifts 2;hurts 0;").changes("text()", 1, "now count(4)", "now count(5)", "tape text()").changes("force(1)", 0, "now count(6)");
+        first.again().changes("round()", 44, "now count(2)", "now count(3)", "now told(0, 0)");
+        first.again().changes("image()", 0).changes("back()", 0);
+        first.again().changes("sheet(1, 2, 3)", 1, "sheet 1 ").changes("cell(1, 2, 9)", 1, "sheet 1 item 0 5").changes("men(1, 2, 0, 1)", 1, "now count(0)", "now told(1, ");
+        first.again().changes("sheet(1, -1, 0)", 1);
     }
 
     /** What these calls answer is held elsewhere; here, twice the same, and that nothing is otherwise behind them. */
