@@ -220,6 +220,16 @@ final class TextEdges {
         fault("gives 1;drifts 1;hurts 1 \n^");
         fault(padded("gives 1;drifts 1;hurts 1", 160) + "^");
         fault(padded("gives 1;drifts 1;hurts 1", 159) + "^)");
+        fault(padded("gives", 159) + "7^");
+        fault(padded("gives", 156) + "9999^");
+        fault(padded("gives 1;drifts 1;hurts", 159) + "7^");
+        fault(padded("gives", 157) + "wet^");
+        fault(padded("gives", 159) + "-^");
+        // what a longer tape had there before is no part of this one
+        Hand again = new Hand().feeds("gives 99999;").due("text()", -106).feeds("gives 9").due("text()", -107);
+        again.feeds("gives wetwet").due("text()", -106).feeds("gives wet").due("text()", -109);
+        again.feeds("gives 1     ").due("text()", -112).feeds("gives 1").due("text()", -107);
+        again.feeds(SHORT + SHORT).due("text()", -125).feeds(SHORT).due("text()", 1);
     }
 
     private static void noTokens() {
